@@ -111,6 +111,9 @@ public final class ShopTest {
         for (int i = 0; i < 13; i++) {
             x.bake(0, 400);
         }
+        BakeHouse thin = House.with(House.FLAT, 2000);
+        thin.bake(0, 5);
+        due.answer("9: CRUST 1", 1000, () -> thin.worth(0));
         due.answer("9: CRUST 1043", 0, () -> x.worth(0));
         due.answer("10: it costs nothing", 0, () -> x.cost(0));
         due.answer("11: change of nothing", 0, () -> x.change(0, 0));
