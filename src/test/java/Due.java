@@ -4,12 +4,26 @@ final class Due {
         int run();
     }
 
+    interface CallOf {
+        int run(int value);
+    }
+
     private final String test;
+    private String about = "";
     private int asked = 0;
     private int wrong = 0;
 
     Due(String test) {
         this.test = test;
+    }
+
+    /** What the calls from here on are about; it is told with each that is not as due. */
+    void about(String what) {
+        about = what;
+    }
+
+    int asked() {
+        return asked;
     }
 
     void answer(String call, int want, Call made) {
@@ -20,6 +34,26 @@ final class Due {
         }
     }
 
+    /** The same answer for each value; the '?' in the call stands for the value. */
+    void each(String call, int want, int[] values, CallOf made) {
+        for (int value : values) {
+            answer(call.replace("?", Integer.toString(value)), want, () -> made.run(value));
+        }
+    }
+
+    /** For each pair the call of the first is answered by the second; the '?' in the call stands for the first. */
+    void pairs(String call, int[][] pairs, CallOf made) {
+        for (int[] pair : pairs) {
+            answer(call.replace("?", Integer.toString(pair[0])), pair[1], () -> made.run(pair[0]));
+        }
+    }
+
+    void unchanged(BakeHouse x, Runnable calls) {
+        String before = House.all(x);
+        calls.run();
+        same("what can be told of the house behind it", before, House.all(x));
+    }
+
     /** The text is asked for too: what the machine throws has a text of its own or none, ours has the class's. */
     void thrown(String call, Class<? extends RuntimeException> want, String text, Call made) {
         asked++;
@@ -27,6 +61,13 @@ final class Due {
         String got = outcome(made);
         if (!got.equals(due)) {
             tellWrong(call, got, due);
+        }
+    }
+
+    void same(String what, String want, String got) {
+        asked++;
+        if (!got.equals(want)) {
+            tellWrong(what, got, want);
         }
     }
 
@@ -54,6 +95,6 @@ final class Due {
 
     private void tellWrong(String call, String got, String due) {
         wrong++;
-        System.out.println(test + ": " + call + " answered " + got + ", due is " + due);
+        System.out.println(test + ": " + about + call + " answered " + got + ", due is " + due);
     }
 }
