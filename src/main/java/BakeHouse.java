@@ -139,7 +139,7 @@ public final class BakeHouse {
         }
         int done = 0;
         for (int k = 0; k < SHELVES; k++) {
-            done += bakeShelf(oven[k], heat);
+            done += bakeShelf(k, heat);
         }
         return done;
     }
@@ -232,15 +232,19 @@ public final class BakeHouse {
     private int placesOfLoaf(int loaf) {
         int lying = 0;
         for (int k = 0; k < SHELVES; k++) {
-            lying += oven[k].timesOf(loaf);
+            for (int place = 0; place < MOST_PLACES; place++) {
+                if (at(k, place) == loaf) {
+                    lying++;
+                }
+            }
         }
         return lying;
     }
 
-    private int bakeShelf(Shelf shelf, int heat) {
+    private int bakeShelf(int k, int heat) {
         int done = 0;
         for (int place = 0; place < MOST_PLACES; place++) {
-            Dough dough = findLoaf(shelf.loafIn(place));
+            Dough dough = findLoaf(at(k, place));
             if (dough != null && dough.doBake(heat)) {
                 done++;
             }
@@ -336,16 +340,6 @@ public final class BakeHouse {
             if (has(place)) {
                 row[place] = loaf;
             }
-        }
-
-        int timesOf(int loaf) {
-            int times = 0;
-            for (int place = 0; place < MOST_PLACES; place++) {
-                if (loafIn(place) == loaf) {
-                    times++;
-                }
-            }
-            return times;
         }
     }
 
